@@ -181,7 +181,10 @@ public final class TrialFunerals {
 
     public int order(int b, int c, int k) {
         if (!isFare(b, c) || !within(k, 0, MOST_PERSONS)) return BAD;
-        orderSearch.searchFrom(now, b, c);
+        if (!orderSearch.isFor(now, b, c)) {
+            orderSearch.start(now, b, c);
+            OrderSearch.tryAll(orderSearch, 0, orderSearch.due, 0);
+        }
         if (k == 0) return orderSearch.most;
         return k <= orderSearch.size ? orderSearch.best[k - 1] : NONE;
     }
@@ -358,6 +361,14 @@ public final class TrialFunerals {
         return Math.max(1, a);
     }
 
+    private static boolean areAlike(int[] one, int[] other) {
+        if (one.length != other.length) return false;
+        for (int k = 0; k < one.length; k++) {
+            if (one[k] != other[k]) return false;
+        }
+        return true;
+    }
+
     private static int drawOf(int z, int k) {
         long x = 7919L * z + 6151L * k + 1L;
         return (int) (x * x % 65521L);
@@ -407,6 +418,13 @@ public final class TrialFunerals {
             hadSet = other.hadSet;
             days = other.days;
             trialsToday = other.trialsToday;
+        }
+
+        boolean isLike(Village other) {
+            return persons == other.persons && trialAge == other.trialAge && deadSet == other.deadSet
+                && hadSet == other.hadSet && days == other.days && trialsToday == other.trialsToday
+                && areAlike(kinds, other.kinds) && areAlike(agesTold, other.agesTold)
+                && areAlike(coins, other.coins) && areAlike(ties, other.ties) && areAlike(debts, other.debts);
         }
 
         boolean tellPerson(int kind, int age, int money) {
@@ -794,6 +812,7 @@ public final class TrialFunerals {
         final int[] best = new int[MOST_PERSONS];
         int bells = 0;
         int cake = 0;
+        int due = 0;
         int size = 0;
         int most = 0;
 
@@ -803,18 +822,22 @@ public final class TrialFunerals {
             }
         }
 
-        void searchFrom(Village village, int b, int c) {
+        /** All orders are dear, and one asks for the places of the best one by one. */
+        boolean isFor(Village village, int b, int c) {
+            return bells == b && cake == c && levels[0].isLike(village);
+        }
+
+        void start(Village village, int b, int c) {
+            levels[0].copyFrom(village);
             bells = b;
             cake = c;
-            levels[0].copyFrom(village);
-            int due = 0;
+            due = 0;
             for (int p = 0; p < village.persons; p++) {
                 if (village.isDueForTrial(p)) due |= 1 << p;
             }
             size = Integer.bitCount(due);
             // Below any number of guests, so that the first order stands until one has more.
             most = -1;
-            tryAll(this, 0, due, 0);
         }
 
         private static void tryAll(OrderSearch search, int depth, int left, int came) {
@@ -822,6 +845,9 @@ public final class TrialFunerals {
                 search.note(came);
                 return;
             }
+            // Later orders must have more, and to no trial come more than all others.
+            int others = search.levels[0].persons - 1;
+            if (came + Integer.bitCount(left) * others <= search.most) return;
             for (int p = 0; p < MOST_PERSONS; p++) {
                 if (contains(left, p)) {
                     int more = search.step(depth, p);
