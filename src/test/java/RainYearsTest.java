@@ -123,7 +123,7 @@ public final class RainYearsTest {
     }
 
     private static void yearFromNowOn() {
-        // z = 1 draws 0 of 3, by 2 bells: the busy 1 comes, but not on a day with a trial; 2 but if 2's tie is not less.
+        // z = 1 draws 0 of 3, by 2 bells: the busy 1 comes, but not on a day with a trial; 2 comes too, unless his tie has become less.
         TrialFunerals x = Villages.laid("p0,60,60;p3,1,9;p0,60,9;t1,0,9;");
         yearIs("a busy one", x, 1, 1, 2, 65 + 9);
         x.trial(2, 0, 0);
