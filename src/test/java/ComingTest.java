@@ -16,6 +16,7 @@ public final class ComingTest {
         orderOfAFew();
         orderByCoins();
         orderAgainWhenItChanges();
+        orderOfLikeVillages();
         orderOfSix();
         orderRefused();
         mutualOfPlainOnes();
@@ -253,6 +254,20 @@ public final class ComingTest {
         orderIs("older", x, 0, 0, 0, 0, 1, 2);
         x.die(0);
         orderIs("without a dead one", x, 0, 0, 0, 1, 2);
+    }
+
+    /** Villages laid one behind the other, most unlike the last one in one thing told: no answer may be the last one's. */
+    private static void orderOfLikeVillages() {
+        TrialFunerals x = new TrialFunerals();
+        String[] texts = {"p0,60,9;p0,60,9;", "p2,60,9;p0,60,9;", "p2,60,1;p0,60,9;", "p2,60,1;p0,60,1;", "p2,49,9;p0,60,9;",
+            "p4,60,9;p0,60,9;t0,1,5;", "p4,60,9;p0,60,9;t0,1,5;o0,1,1;", "p0,60,9;p0,60,9;p0,60,9;", "p0,60,9;p0,60,9;g61;"};
+        int[][] want = {{0, 0, 1}, {1, 0, 1}, {1, 0, 1}, {0, 0, 1}, {1, 1}, {1, 1, 0}, {0, 0, 1}, {0, 0, 1, 2}, {0}};
+        for (int k = 0; k < texts.length; k++) {
+            x.wipe();
+            Villages.write(x, texts[k]);
+            x.lay();
+            orderIs(texts[k], x, 0, 1, want[k]);
+        }
     }
 
     private static void orderOfSix() {

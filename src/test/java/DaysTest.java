@@ -215,6 +215,9 @@ public final class DaysTest {
         }
         DUE.is("12: live", x.count(1), 3);
         DUE.is("12: can be undone", x.count(8), 1);
+        TrialFunerals z = Villages.laid("p0,1,1;p0,1,1;p0,1,1;t1,2,9;o0,1,9;o0,2,3;");
+        z.die(1);
+        DUE.is("12: 0 owes the heir", z.owes(0, 2), 12);
         TrialFunerals y = Villages.laid("p0,1,1;p0,1,1;p0,1,1;o2,0,60;o2,1,60;");
         y.die(0);
         DUE.is("12: debts beyond 60", y.owes(2, 1), 120);

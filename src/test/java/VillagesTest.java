@@ -206,6 +206,7 @@ public final class VillagesTest {
         x.keep();
         x.keep();
         x.see(0, 1, 1, 1, true);
+        x.year(5, 60, 0);
         DUE.is("5: anew", x.lay(), 3);
         int[] counts = {3, 3, 0, 0, 0, 21, 0, 0, 0, 0, 23};
         for (int what = 0; what < counts.length; what++) {
